@@ -86,9 +86,12 @@ public final class ActsTest {
     }
 
     private static void tiesAreUndone() {
-        TableShares x = read("t3;a1,1;q2,2;");
+        TableShares x = read("t3;a1,1;q2,3;");
+        due("worth(3)", x.worth(3), -2);
         due("untie()", x.untie(), 1);
+        due("worth(3) without the TIE undone", x.worth(3), 1);
         due("untie()", x.untie(), 0);
+        due("worth(3) without TIES", x.worth(3), 0);
         due("untie() of none", x.untie(), STATE);
         due("untie() of no TABLE", new TableShares().untie(), STATE);
         due("kind(0)", x.kind(0), BAD);
@@ -101,7 +104,9 @@ public final class ActsTest {
         due("undo()", x.undo(), 0);
         due("KIND", x.kind(1), 2);
         due("SET", x.tieHas(1, 0), 2);
-        due("WORTH", x.tieHas(1, 1), 2);
+        due("WORTH", x.tieHas(1, 1), 3);
+        due("MEALS", x.count(3), 0);
+        due("SPOKEN", x.tableHas(4), 0);
     }
 
     private static void mealsAreSpoken() {
@@ -150,6 +155,7 @@ public final class ActsTest {
         due("MEALS", x.count(3), 2);
         due("undo() of the other", x.undo(), 3);
         due("undo() of a return", x.undo(), 2);
+        due("TIES", x.count(2), 1);
         due("who are there", x.tableHas(0), 6);
         due("undo() of a MEAL", x.undo(), 1);
         due("MEALS", x.count(3), 0);

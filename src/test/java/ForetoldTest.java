@@ -231,6 +231,8 @@ public final class ForetoldTest {
         due("together(1), one missed alone", x.together(1), NONE);
         x = read("t4;y3,5;q1,3;");
         due("together(0), one missed less than 0", x.together(0), 0);
+        x = read("t4;y3,5;a2,3;");
+        due("together(0), the other missed alone", x.together(0), 0);
         x = read("t4;n3,5;");
         due("together(0), all WORTH more without", x.together(0), 0);
         x = read("t2;y3,1;");
@@ -292,6 +294,12 @@ public final class ForetoldTest {
         due("best(1): an empty set", x.best(1), 9);
         x = read("t2;q3,9;q1,1;n1,0;");
         due("best(1): nothing", x.best(1), 0);
+        x = read("t4;m15,1;");
+        due("best(0): all PEOPLE", x.best(0), 15);
+        due("best(1): all PEOPLE", x.best(1), 3);
+        x = read("t4;y15,3;");
+        due("best(0): the first one", x.best(0), 1);
+        due("best(1): the first one", x.best(1), 3);
         x = read("t2;");
         due("best(0): no TIES", x.best(0), 0);
         for (int bad : NO_HALVES) {
@@ -314,6 +322,9 @@ public final class ForetoldTest {
         x.away(0, 1);
         due("bring(0): to nobody", x.bring(0), 3);
         due("bring(1): to nobody", x.bring(1), 5);
+        x.away(1, 0);
+        due("bring(0): the first one", x.bring(0), 0);
+        due("bring(1): the first one", x.bring(1), 7);
         for (int bad : NO_HALVES) {
             due("bring(" + bad + ")", x.bring(bad), BAD);
             due("bring(" + bad + ") of no TABLE", new TableShares().bring(bad), STATE);
@@ -337,6 +348,12 @@ public final class ForetoldTest {
         due("status()", x.status(), 0);
         row(x, 1, 3, -7);
         due("which, a quarrel", x.which(0, 1, 0, 1), 1 << 2);
+        row(x, 4, 1, 0, 2, 0, 7, 9, 3, 9);
+        due("which, three MEALS", x.which(0, 4, 0, 3), 1 << 1 | 1 << 3);
+        due("which, four MEALS", x.which(0, 4, 0, 4), 0);
+        row(x, 4, 1, 0, 2, 0, 9, 7, 3, 7);
+        due("which, no set in the third MEAL", x.which(0, 4, 0, 4), BAD);
+        due("which, no set behind the MEALS", x.which(0, 4, 0, 2), 62 & ~(1 << 4));
         due("which, no set at last", x.which(0, 0, 6, 3), BAD);
         row(x, 2, -1, 0, 0, -1);
         due("which, a set below 0", x.which(0, 2, 0, 1), BAD);
