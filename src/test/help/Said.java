@@ -24,7 +24,7 @@ final class Said {
         int from = doc.indexOf("\n" + heading);
         String text = "";
         if (from < 0) {
-            due("the heading " + heading + " stands", 0, 1);
+            wrong("the document has no heading " + heading);
         } else {
             int begin = doc.indexOf('\n', from + 1);
             text = doc.substring(begin, doc.indexOf("\n#", begin));
@@ -42,8 +42,11 @@ final class Said {
 
     // What stands ahead of the next piece, up to a mark, says nothing that a call could break.
     Said goingOnAt(String mark) {
+        piece = heading;
         int next = text.indexOf(mark, told);
-        due(heading + " goes on at " + mark, next < 0 ? 0 : 1, 1);
+        if (next < 0) {
+            wrong("the document does not go on at " + mark);
+        }
         told = Math.max(told, next);
         return this;
     }
@@ -52,22 +55,32 @@ final class Said {
         skipBetween();
         piece = heading + " \"" + words + "\"";
         pieces++;
-        due("stands in the document here", text.startsWith(words, told) ? 1 : 0, 1);
+        if (!text.startsWith(words, told)) {
+            wrong("the document says here " + text.substring(told));
+        }
         told = Math.min(text.length(), told + words.length());
-        test.run();
+        try {
+            test.run();
+        } catch (RuntimeException e) {
+            wrong("a call threw " + e);
+        }
         return this;
     }
 
     void andNoMore() {
         skipBetween();
         piece = heading;
-        due("says, too: " + text.substring(told), told == text.length() ? 1 : 0, 1);
+        if (told < text.length()) {
+            wrong("the document says, too: " + text.substring(told));
+        }
     }
 
     void andNoMoreAheadOf(String mark) {
         skipBetween();
         piece = heading;
-        due("goes on with " + mark, text.startsWith(mark, told) ? 1 : 0, 1);
+        if (!text.startsWith(mark, told)) {
+            wrong("the document says, too: " + text.substring(told));
+        }
     }
 
     private void skipBetween() {
@@ -78,8 +91,7 @@ final class Said {
 
     static void due(String call, long got, long want) {
         if (got != want) {
-            wrong++;
-            System.out.println(piece + ": " + call + " answered " + got + ", due is " + want);
+            wrong(call + " answered " + got + ", due is " + want);
         }
     }
 
@@ -91,9 +103,13 @@ final class Said {
 
     static void due(String call, String got, String want) {
         if (!got.equals(want)) {
-            wrong++;
-            System.out.println(piece + ": " + call + "\n  answered " + got + "\n  due is   " + want);
+            wrong(call + "\n  answered " + got + "\n  due is   " + want);
         }
+    }
+
+    private static void wrong(String what) {
+        wrong++;
+        System.out.println(piece + ": " + what);
     }
 
     static void end() {
@@ -107,7 +123,7 @@ final class Said {
         try {
             return Files.readString(Path.of("../shared/DOC.md"));
         } catch (IOException e) {
-            due("the document can be read", 0, 1);
+            wrong("the document cannot be read: " + e);
             return "";
         }
     }

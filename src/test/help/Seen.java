@@ -38,8 +38,7 @@ final class Seen {
         }
     }
 
-    // An object of which every look tells something: a TABLE with ACTS, both IMAGES, ROWS of each LANE, a TRACE, a
-    // FAULT, a FINDING, a text that is begun.
+    // An object of which every look tells something: a TABLE with ACTS, both IMAGES, a TRACE, and what needs no TABLE.
     static void everything(TableShares x) {
         read(x, "t4;a3,7;q6,5;y9,2;");
         x.image(0);
@@ -51,6 +50,12 @@ final class Seen {
         x.image(1);
         x.away(1, 0);
         x.untie();
+        x.ask(0, 0);
+        withoutTable(x);
+    }
+
+    // What needs no TABLE: ROWS of each LANE, a FAULT, a text that is begun, a FINDING.
+    static void withoutTable(TableShares x) {
         read(x, "t2;a4");
         for (int row = 0; row < 3; row++) {
             x.row(row, row, 6);
@@ -60,7 +65,6 @@ final class Seen {
         }
         x.set(2, 3, 16);
         x.row(3, 2, 0);
-        x.ask(0, 0);
         feed(x, "t3;y5,1");
         x.drop(7);
     }
@@ -177,8 +181,10 @@ final class Seen {
     private static String actsOf(TableShares x) {
         StringBuilder seen = new StringBuilder();
         seen.append(x.count(5));
-        for (int act = 0; act <= MOST_ACTS; act++) {
-            seen.append(" | ").append(x.undo()).append(": ").append(x.tableHas(0)).append(' ').append(x.count(3));
+        int left = 0;
+        for (int act = 0; act <= MOST_ACTS && left >= 0; act++) {
+            left = x.undo();
+            seen.append(" | ").append(left).append(": ").append(x.tableHas(0)).append(' ').append(x.count(3));
             seen.append(' ').append(x.tableHas(4)).append(' ').append(x.count(2)).append(' ');
             seen.append(tieOf(x, x.count(2) - 1));
         }
@@ -194,6 +200,6 @@ final class Seen {
         for (int i = 0; i <= MOST_TRACE; i++) {
             seen.append(x.trace(i)).append(' ');
         }
-        return seen.toString();
+        return seen.toString().trim();
     }
 }

@@ -526,6 +526,7 @@ public final class PromisesTest {
             due("a quarrel, 2 being AWAY", x.tieHas(0, 2), 0);
             due("more, 2 being AWAY", x.tieHas(1, 2), 2);
             due("nobody, 2 being AWAY", x.tieHas(2, 2), 3);
+            changes("tieHas(0, 2)", "", y -> y.tieHas(0, 2));
         }).says("BAD", () -> {
             dueOfEach("tieHas(.., 0)", BAD, n -> read("t3;a1,1;").tieHas(n, 0), -1, 1, 8, LEAST, MOST);
             dueOfEach("tieHas(0, ..)", BAD, n -> read("t3;a1,1;").tieHas(0, n), -1, 3, LEAST, MOST);
@@ -550,6 +551,7 @@ public final class PromisesTest {
             x.away(0, 1);
             x.meals(3);
             due("2 of 7, 3 of nothing", x.tableHas(4), 14);
+            changes("tableHas(4)", "", y -> y.tableHas(4));
         }).says("BAD", () -> dueOfEach("tableHas(..)", BAD, n -> read("t2;").tableHas(n), -1, 5, LEAST, MOST))
         .says("STATE: no TABLE", () -> dueOfEach("tableHas(..)", STATE, n -> noTable().tableHas(n), 0, 1, 2, 3, 4))
         .says("ahead of BAD", () -> dueOfEach("tableHas(..)", STATE, n -> noTable().tableHas(n), -1, 5)).andNoMore();
@@ -743,6 +745,9 @@ public final class PromisesTest {
             due("which(0, 3, 7, 1) of -1", seen().which(0, 3, 7, 1), BAD);
             due("which(0, 3, 0, 1) of 9", seen().which(0, 3, 0, 1), BAD);
             due("which(0, 3, 1, 3), the third", seen().which(0, 3, 1, 3), BAD);
+            TableShares no = seen();
+            no.set(3, 4, 99);
+            due("which(0, 3, 3, 2), no KIND being left", no.which(0, 3, 3, 2), BAD);
             due("which(0, 3, 4, 1), WORTH 4", seen().which(0, 3, 4, 1), 0);
             due("which(0, 3, 0, 5), PLACE ahead of it", seen().which(0, 3, 0, 5), PLACE);
             TableShares x = seen();
@@ -842,6 +847,7 @@ public final class PromisesTest {
                 due("kind(" + tie + ") taken as a TIE", x.kind(tie), 5 - tie);
             }
             due("kind(5)", x.kind(x.tie(3, 1, 1)), 3);
+            changes("kind(0)", "", y -> y.kind(0));
         }).says("BAD", () -> {
             dueOfEach("kind(..)", BAD, n -> read("t2;a1,1;").kind(n), -1, 1, 8, LEAST, MOST);
             due("kind(0) of no TABLE", noTable().kind(0), BAD);
@@ -903,6 +909,7 @@ public final class PromisesTest {
             }
             Seen.read(x, "t2;");
             due("trace(5) after another TABLE", x.trace(5), 20);
+            changes("trace(0)", "", y -> y.trace(0));
         }).says("NONE", () -> {
             TableShares x = read("t2;q3,5;");
             due("trace(0) at first", x.trace(0), NONE);
@@ -922,6 +929,7 @@ public final class PromisesTest {
             Seen.feed(x, "t2;a");
             due("count(" + what + ")", x.count(what), many);
             due("count(" + what + ") of a new object", new TableShares().count(what), 0);
+            changes("count(" + what + ")", "", y -> y.count(what));
         });
     }
 
@@ -987,9 +995,12 @@ public final class PromisesTest {
             statusAfter("KIND", 3, x -> x.as(0, 5));
             statusAfter("SIZE", 4, x -> x.row(1, 1, -9));
             statusAfter("STORE", 5, x -> x.copy(0, 0, 1, 0, 0));
+            changes("status()", "", x -> x.status());
         }).says("0: it had none", () -> {
             statusAfter("row(7, 2, 40)", 0, x -> x.row(7, 2, 40));
             statusAfter("which, of no MEALS", 0, x -> x.which(0, 0, 6, 0));
+            due("leaves(2, 0)", Seen.withEverything().leaves(2, 0), NONE);
+            statusAfter("leaves(2, 0)", 0, x -> x.leaves(2, 0));
         }).says("or there was none", () -> {
             due("status() of a new object", new TableShares().status(), 0);
             due("status() after other calls", readAndAway("t2;a1,1;", 0).status(), 0);

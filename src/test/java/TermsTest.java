@@ -1,4 +1,5 @@
 import java.util.List;
+import java.util.Map;
 import java.util.function.Consumer;
 import java.util.function.ToIntFunction;
 
@@ -140,51 +141,64 @@ public final class TermsTest {
         new Call("restore(2)", BAD, x -> x.restore(2)), new Call("kind(3)", BAD, x -> x.kind(3)),
         new Call("as(3, 0)", BAD, x -> x.as(3, 0)), new Call("ask(3, 0)", BAD, x -> x.ask(3, 0)));
 
-    // ROWS and a text, but no TABLE.
-    private static void noTable(TableShares x) {
-        x.row(0, 2, 12);
-        Seen.feed(x, "t3;y5,1");
-        x.drop(7);
+    private static void noTies(TableShares x) {
+        Seen.read(x, "t3;n1,3;");
+        x.away(0, 1);
+        x.meals(1);
+        x.ask(0, 0);
+        x.untie();
+        x.image(0);
+        x.away(1, 1);
+        Seen.withoutTable(x);
     }
 
-    private static void noTies(TableShares x) {
-        Seen.read(x, "t3;");
+    private static void noActs(TableShares x) {
+        Seen.read(x, "t3;a7,7;");
+        x.meals(2);
+        x.image(1);
         x.away(1, 1);
-        Seen.feed(x, "t3;y5,1");
-        x.drop(7);
+        x.image(0);
+        x.restore(0);
+        x.ask(0, 1);
+        Seen.withoutTable(x);
     }
 
     private static final List<Call> NOT_IN_THIS_STATE = List.of(
         new Call("away(3, 1) of one AWAY", STATE, x -> x.away(3, 1)),
         new Call("away(0, 0) of one there", STATE, x -> x.away(0, 0)),
-        new Call("tie of no TABLE", STATE, TermsTest::noTable, x -> x.tie(1, 1, 1)),
-        new Call("untie() of no TABLE", STATE, TermsTest::noTable, x -> x.untie()),
+        new Call("tie of no TABLE", STATE, Seen::withoutTable, x -> x.tie(1, 1, 1)),
+        new Call("untie() of no TABLE", STATE, Seen::withoutTable, x -> x.untie()),
         new Call("untie() of no TIES", STATE, TermsTest::noTies, x -> x.untie()),
-        new Call("meals(1) of no TABLE", STATE, TermsTest::noTable, x -> x.meals(1)),
-        new Call("undo() of no TABLE", STATE, TermsTest::noTable, x -> x.undo()),
-        new Call("undo() of no ACTS", STATE, x -> Seen.read(x, "t3;a7,7;"), x -> x.undo()),
-        new Call("tableHas(0) of no TABLE", STATE, TermsTest::noTable, x -> x.tableHas(0)),
-        new Call("worth(0) of no TABLE", STATE, TermsTest::noTable, x -> x.worth(0)),
-        new Call("leaves(0, 0) of no TABLE", STATE, TermsTest::noTable, x -> x.leaves(0, 0)),
-        new Call("together(0) of no TABLE", STATE, TermsTest::noTable, x -> x.together(0)),
-        new Call("whoAway(0, 0) of no TABLE", STATE, TermsTest::noTable, x -> x.whoAway(0, 0)),
-        new Call("enough(0, 0) of no TABLE", STATE, TermsTest::noTable, x -> x.enough(0, 0)),
-        new Call("best(0) of no TABLE", STATE, TermsTest::noTable, x -> x.best(0)),
-        new Call("bring(0) of no TABLE", STATE, TermsTest::noTable, x -> x.bring(0)),
-        new Call("colds(0, 0, 0) of no TABLE", STATE, TermsTest::noTable, x -> x.colds(0, 0, 0)),
-        new Call("image(0) of no TABLE", STATE, TermsTest::noTable, x -> x.image(0)),
-        new Call("restore(0) of no IMAGE", STATE, TermsTest::noTable, x -> x.restore(0)),
+        new Call("meals(1) of no TABLE", STATE, Seen::withoutTable, x -> x.meals(1)),
+        new Call("undo() of no TABLE", STATE, Seen::withoutTable, x -> x.undo()),
+        new Call("undo() of no ACTS", STATE, TermsTest::noActs, x -> x.undo()),
+        new Call("tableHas(0) of no TABLE", STATE, Seen::withoutTable, x -> x.tableHas(0)),
+        new Call("worth(0) of no TABLE", STATE, Seen::withoutTable, x -> x.worth(0)),
+        new Call("leaves(0, 0) of no TABLE", STATE, Seen::withoutTable, x -> x.leaves(0, 0)),
+        new Call("together(0) of no TABLE", STATE, Seen::withoutTable, x -> x.together(0)),
+        new Call("whoAway(0, 0) of no TABLE", STATE, Seen::withoutTable, x -> x.whoAway(0, 0)),
+        new Call("enough(0, 0) of no TABLE", STATE, Seen::withoutTable, x -> x.enough(0, 0)),
+        new Call("best(0) of no TABLE", STATE, Seen::withoutTable, x -> x.best(0)),
+        new Call("bring(0) of no TABLE", STATE, Seen::withoutTable, x -> x.bring(0)),
+        new Call("colds(0, 0, 0) of no TABLE", STATE, Seen::withoutTable, x -> x.colds(0, 0, 0)),
+        new Call("image(0) of no TABLE", STATE, Seen::withoutTable, x -> x.image(0)),
+        new Call("restore(0) of no IMAGE", STATE, Seen::withoutTable, x -> x.restore(0)),
         new Call("restore(1) of no IMAGE", STATE, TermsTest::noTies, x -> x.restore(1)));
 
     private static void fullTape(TableShares x) {
-        Seen.read(x, "t3;a7,7;");
-        Seen.feed(x, "t2;".repeat(40));
+        noActs(x);
+        x.away(2, 1);
+        Seen.feed(x, "0;" + "t".repeat(111));
     }
 
     private static void eightTies(TableShares x) {
         Seen.read(x, EIGHT);
+        x.image(0);
+        x.meals(3);
+        x.image(1);
         x.away(1, 1);
-        x.drop(7);
+        x.ask(7, 0);
+        Seen.withoutTable(x);
     }
 
     private static void mealsUpTo998(TableShares x) {
@@ -192,8 +206,12 @@ public final class TermsTest {
         for (int i = 0; i < 49; i++) {
             x.meals(20);
         }
+        x.image(1);
         x.away(1, 1);
+        x.image(0);
         x.meals(18);
+        x.ask(0, 0);
+        Seen.withoutTable(x);
     }
 
     private static final List<Call> NO_ROOM = List.of(
@@ -313,8 +331,34 @@ public final class TermsTest {
         .says("FULL (as told)", () -> answered(NO_ROOM));
     }
 
+    // What no call may change unseen: the tests of what is changed compare with this.
+    private static void everythingIsSeen() {
+        Map<String, String> seen = Seen.by(Seen::everything);
+        String missing = " -1000000".repeat(13);
+        String[] rows = {"0 0,1,2,3,4,5,-1000015 -1000015 of 6", "-1000015 0 7,8,9,10,11,12,-1000015 of 6",
+            "-1000015 -1000015 0 14,15,0,16,2,3,of 6", "-1000015 -1000015 0 of 0"};
+        for (int row = 0; row < 8; row++) {
+            Said.due("ROW " + row, seen.get(Seen.ROW + row), row < 4 ? rows[row] : "-1000011 ".repeat(3)
+                    + "of -1000011");
+        }
+        Said.due("THE TAPE and 7;", seen.get(Seen.TAPE), "7 bytes, 1 3 PEOPLE, 7 17 17 0 0 0 0 1 TIES, 4 5 17");
+        Said.due("the FAULT", seen.get(Seen.FAULT), "2");
+        Said.due("the TABLE", seen.get(Seen.TABLE), "4 PEOPLE, 7 4 4 3 19 3 1");
+        Said.due("the TIES", seen.get(Seen.TIES), "3 TIES, 1 3 7, 2 6 5, 4 9 2");
+        Said.due("the ACTS", seen.get(Seen.ACTS), "8 | 7: 7 3 19 4 5 8 9 | 6: 5 3 19 4 5 8 9 | 5: 5 2 8 4 5 8 9"
+                + " | 4: 7 2 8 4 5 8 9 | 3: 7 2 8 3 4 9 2 | 2: 7 1 4 3 4 9 2 | 1: 7 0 0 3 4 9 2 | 0: 15 0 0 3 4 9 2"
+                + " | -1000002: 15 0 0 3 4 9 2");
+        Said.due("IMAGE 0", seen.get(Seen.IMAGE_0), "1 4 PEOPLE, 15 4 4 0 0 0 0 3 TIES, 1 3 7, 2 6 5, 4 9 2");
+        Said.due("IMAGE 1", seen.get(Seen.IMAGE_1), "1 4 PEOPLE, 5 11 4 3 19 3 2 4 TIES, 1 3 7, 2 6 5, 4 9 2, 5 8 9");
+        Said.due("THE TRACE", seen.get(Seen.TRACE), "11 10 21 20" + missing);
+        Said.due("status()", seen.get(Seen.STATUS), "1");
+    }
+
     private static void findings(Said said) {
-        said.says("then FINDINGS", () -> answered(FINDINGS))
+        said.says("then FINDINGS", () -> {
+            answered(FINDINGS);
+            everythingIsSeen();
+        })
         .says("of several the first in time", () -> {
             TableShares x = new TableShares();
             x.row(0, 0, 2);
