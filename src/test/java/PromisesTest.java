@@ -96,7 +96,7 @@ public final class PromisesTest {
         Said.under("## What it is").goingOnAt("An object is used")
         .says("An object is used for at most 512 calls after it has been made", () -> {
             TableShares x = read("t2;a3,7;y2,1;");
-            for (int call = 13; call < 487; call++) {
+            for (int call = 15; call < 487; call++) {
                 due("call " + call, x.away(1, call % 2), (call % 2) * 2);
             }
             for (int left = 23; left >= 0; left--) {
